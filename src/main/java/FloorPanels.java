@@ -629,7 +629,8 @@ public final class FloorPanels {
             return wrong;
         }
 
-        // ---- changes; each answers whether it is allowed, and does nothing if not
+        // ---- changes; none does anything where the document wants an exception, and those
+        // that a script can ask for answer whether they are allowed
 
         boolean insertLevel(int l, int kind) {
             if (l < 0 || l > levels || !isKind(kind) || isFull()) {
@@ -675,13 +676,11 @@ public final class FloorPanels {
             return true;
         }
 
-        boolean moveGround(int l) {
-            if (!hasLevel(l) || kindOf(l) != WHOLE) {
-                return false;
+        void moveGround(int l) {
+            if (hasLevel(l) && kindOf(l) == WHOLE) {
+                groundLevel = l;
+                renumber();
             }
-            groundLevel = l;
-            renumber();
-            return true;
         }
 
         boolean changeSkip(int storey, boolean is) {
@@ -694,12 +693,10 @@ public final class FloorPanels {
             return true;
         }
 
-        boolean changeService(int c, int l, boolean is) {
-            if (!isCar(c) || !hasLevel(l)) {
-                return false;
+        void changeService(int c, int l, boolean is) {
+            if (isCar(c) && hasLevel(l)) {
+                put(SERVED + c, l, is ? 1 : 0);
             }
-            put(SERVED + c, l, is ? 1 : 0);
-            return true;
         }
 
         boolean correctSign(int l) {
@@ -728,14 +725,12 @@ public final class FloorPanels {
             return true;
         }
 
-        boolean swapButtons(int c, int l, int m) {
-            if (!isCar(c) || !hasLevel(l) || !hasLevel(m)) {
-                return false;
+        void swapButtons(int c, int l, int m) {
+            if (isCar(c) && hasLevel(l) && hasLevel(m)) {
+                int said = buttonAt(c, l);
+                put(BUTTON + c, l, buttonAt(c, m));
+                put(BUTTON + c, m, said);
             }
-            int said = buttonAt(c, l);
-            put(BUTTON + c, l, buttonAt(c, m));
-            put(BUTTON + c, m, said);
-            return true;
         }
 
         // ---- rows and names

@@ -380,6 +380,9 @@ public final class Promises01To10Test {
         x.putSign(1);
         x.kind(1, 3);
         check.is("what only a sign says", x.named(-4, 0), -1);
+        FloorPanels low = Check.house("hG");
+        check.is("a name of level 0", low.named(1, 0), 0);
+        check.is("a name of the last level", low.named(0, 0), 1);
         check.refuses("named(1, -1)", ARGUMENT, x, () -> x.named(1, -1));
         check.refuses("named(99, least)", ARGUMENT, x, () -> x.named(99, Integer.MIN_VALUE));
     }

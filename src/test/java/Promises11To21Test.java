@@ -11,6 +11,8 @@ public final class Promises11To21Test {
         addMovesWhatBelongsToLevels();
         addRefuses();
         remove();
+        removeNumbersAnew();
+        removeLeavesNothing();
         removeRefuses();
         kind();
         kindRefuses();
@@ -107,6 +109,49 @@ public final class Promises11To21Test {
         check.is("remove(2)", x.remove(2), 2);
         check.is("remove(0) again", x.remove(0), 1);
         check.is("the ground alone", x.about(1), 0);
+    }
+
+    private static void removeNumbersAnew() {
+        FloorPanels x = Check.house("wwGwhww/2");
+        Check.putAllRight(x);
+        x.remove(3);
+        check.same("the names above", Check.names(x), "-8 -4 0 1 4 12");
+        check.same("the signs above", Check.signs(x), "-8 -4 0 5 12 16");
+        x.remove(1);
+        check.same("the names below", Check.names(x), "-4 0 1 4 12");
+        check.same("the signs below", Check.signs(x), "-8 0 5 12 16");
+        check.is("the wrong signs then", x.about(2), 4);
+        check.is("the wrong buttons then", x.about(3), 12);
+    }
+
+    /** What the highest levels had is not counted when they are gone. */
+    private static void removeLeavesNothing() {
+        FloorPanels x = Check.house("Ghhhwxw");
+        x.putCar(0);
+        x.serve(1, 0, false);
+        check.is("remove(6)", x.remove(6), 6);
+        check.is("the greatest storey", x.about(7), 1);
+        check.is("the wrong signs", x.about(2), 5);
+        check.is("the wrong buttons", x.about(3), 10);
+        check.is("goes(0, 0, 8)", x.goes(0, 0, 8), -1);
+        check.is("remove(5)", x.remove(5), 5);
+        check.is("the levels without a name", x.about(4), 0);
+        check.is("astray(0)", x.astray(0), 7);
+        check.is("astray(2)", x.astray(2), 20);
+        check.is("serve(0, 0, true)", x.serve(0, 0, true), 5);
+        check.is("remove(4)", x.remove(4), 4);
+        check.is("remove(3)", x.remove(3), 3);
+        check.is("the names in common", x.about(5), 2);
+        check.is("named(1, 2)", x.named(1, 2), -1);
+        check.is("level(1, 4)", x.level(1, 4), 2);
+        check.is("goes(0, 2, 1)", x.goes(0, 2, 1), 1);
+        check.is("rides(0, 2)", x.rides(0, 2), 2);
+        check.refuses("level(3, 0)", INDEX, x, () -> x.level(3, 0));
+        FloorPanels low = Check.house("wwG");
+        low.ground(0);
+        low.remove(2);
+        low.ground(1);
+        check.is("the least storey", low.about(8), -1);
     }
 
     private static void removeRefuses() {
