@@ -130,7 +130,7 @@ public final class Promises22To32Test {
         check.is("rides(0, 3) of one name", y.rides(0, 3), -1);
     }
 
-    /** Each level but the ground is reached from the one below it alone, by its own name. */
+    /** Two cars meet at level 1; no car serves a level above 2. */
     private static void ridesThroughALongHouse() {
         FloorPanels x = Check.house("Gwwwwwwwwwwwwwww");
         for (int l = 0; l < 16; l++) {
