@@ -1,14 +1,17 @@
 /**
- * Long runs of calls on the program and on the model side by side. The runs are chosen by
- * numbers that are the same each time. Most arguments are good ones, some are at the edge,
- * some are far out.
+ * Runs of calls on the program and on the model side by side, as long as the document
+ * promises anything for. The runs are chosen by numbers that are the same each time. Most
+ * arguments are good ones, some are at the edge, some are far out.
  */
 public final class ModelTest {
-    private static final int RUNS = 400;
+    private static final int RUNS = 1200;
     private static final int CALLS = 512;
+    private static final int NUMBERS = 9;
     private static final String[] TEXTS = {"G", "wG", "Gw/1", "xwhGjwwhw/2,4,13",
         "whjxGwhjxwhj/1,2,3,30", "wwwwwwwGwwwwwwww", "GwhhwjjxwhwG", "wwwwwwwwwwwwwwww",
-        "hhhhGjjjj/5,50", "w/1", "G/", "G/2,1,3", "wwwwwwwwwwwwwwwG/13", "Gwwwwwwwwwwwwwwwww"};
+        "hhhhGjjjj/5,50", "w/1", "G/", "G/2,1,3", "wwwwwwwwwwwwwwwG/13", "Gwwwwwwwwwwwwwwwww",
+        "Gwwhwwjwwwwwwwww/18,19,20,21,22,23,24,25,26,27,28,29,30", "whjwGhhjjwhhw",
+        "wGw/1,2,3,4,5,6,7,8,9,10,11,12,13,14,15,16,17,18,19,20,21,22"};
     private static final String[] CALLS_OFTEN = {"text", "load", "add", "kind", "ground", "skip",
         "serve", "putSign", "putButton", "putCar", "exchange", "undo", "goes", "astray", "rides",
         "ifSkipped", "bestSkip", "ifAdded", "worst", "runScript", "simulate", "level", "button"};
@@ -18,6 +21,7 @@ public final class ModelTest {
     private static final Check check = new Check();
 
     private long chance;
+    private int calls;
     private final FloorPanels program = new FloorPanels();
     private final Model model = new Model();
     private String call;
@@ -36,9 +40,9 @@ public final class ModelTest {
 
     private void run(int run) {
         chance = run * 1000003L + 17;
-        for (int i = 0; i < CALLS; i++) {
-            String[] calls = below(3) == 0 ? CALLS_SELDOM : CALLS_OFTEN;
-            call = calls[below(calls.length)];
+        while (calls < CALLS - NUMBERS) {
+            String[] some = below(3) == 0 ? CALLS_SELDOM : CALLS_OFTEN;
+            call = some[below(some.length)];
             if (call.equals("load") && below(4) != 0) {
                 call = "about";
             }
@@ -46,18 +50,18 @@ public final class ModelTest {
                 writeText();
             } else {
                 chooseArguments();
-                compare(run, i);
+                compare(run);
             }
         }
-        String all = Check.seen(program);
-        for (int what = 0; what <= 8; what++) {
-            if (program.about(what) != model.about(what)) {
-                check.tell("run " + run + " ended in " + all);
-            }
+        call = "about";
+        for (int what = 0; what < NUMBERS; what++) {
+            a = what;
+            compare(run);
         }
     }
 
-    private void compare(int run, int i) {
+    private void compare(int run) {
+        calls++;
         String due;
         String got;
         try {
@@ -71,7 +75,7 @@ public final class ModelTest {
             got = e.getClass().getName();
         }
         if (!got.equals(due)) {
-            check.tell("run " + run + ", call " + i + ": " + call + " of " + a + ", " + b + ", " + c
+            check.tell("run " + run + ", call " + calls + ": " + call + " of " + a + ", " + b + ", " + c
                     + ", " + big + ", " + is + " answered " + got + ", due is " + due);
         }
     }
@@ -100,6 +104,10 @@ public final class ModelTest {
 
     private void writeText() {
         String text = TEXTS[below(TEXTS.length)];
+        if (calls + 1 + text.length() > CALLS - NUMBERS) {
+            return;
+        }
+        calls += 1 + text.length();
         int changed = below(3) == 0 ? below(text.length()) : -1;
         char change = "Gwhjx/,0123456789".charAt(below(17));
         model.clearText();

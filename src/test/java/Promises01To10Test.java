@@ -44,18 +44,18 @@ public final class Promises01To10Test {
 
     private static void append() {
         FloorPanels x = new FloorPanels();
-        check.refuses("append(-1)", ARGUMENT, x, () -> x.append(-1));
-        check.refuses("append(256)", ARGUMENT, x, () -> x.append(256));
-        check.refuses("append(least)", ARGUMENT, x, () -> x.append(Integer.MIN_VALUE));
-        check.refuses("append(greatest)", ARGUMENT, x, () -> x.append(Integer.MAX_VALUE));
+        check.raises("append(-1)", ARGUMENT, () -> x.append(-1));
+        check.raises("append(256)", ARGUMENT, () -> x.append(256));
+        check.raises("append(least)", ARGUMENT, () -> x.append(Integer.MIN_VALUE));
+        check.raises("append(greatest)", ARGUMENT, () -> x.append(Integer.MAX_VALUE));
         check.is("append(0)", x.append(0), 1);
         check.is("append(255)", x.append(255), 2);
         for (int length = 3; length <= 60; length++) {
             check.is("append to " + (length - 1), x.append('G'), length);
         }
-        check.refuses("append to 60", STATE, x, () -> x.append('G'));
-        check.refuses("append(256) to 60", ARGUMENT, x, () -> x.append(256));
-        check.refuses("append(-1) to 60", ARGUMENT, x, () -> x.append(-1));
+        check.raises("append to 60", STATE, () -> x.append('G'));
+        check.raises("append(256) to 60", ARGUMENT, () -> x.append(256));
+        check.raises("append(-1) to 60", ARGUMENT, () -> x.append(-1));
         check.is("clearText() behind 60", x.clearText(), 60);
         check.is("append to none", x.append('G'), 1);
         check.is("a text that has come again", x.errorPosition(), FloorPanels.NONE);
@@ -231,13 +231,13 @@ public final class Promises01To10Test {
         x.save(1);
         x.putSign(0);
         Check.write(x, "GG");
-        check.refuses("load() of GG", STATE, x, () -> x.load());
+        check.raises("load() of GG", STATE, () -> x.load());
         Check.write(x, "");
-        check.refuses("load() of nothing", STATE, x, () -> x.load());
+        check.raises("load() of nothing", STATE, () -> x.load());
         Check.write(x, "w");
-        check.refuses("load() of w", STATE, x, () -> x.load());
+        check.raises("load() of w", STATE, () -> x.load());
         Check.write(x, "G/2,2");
-        check.refuses("load() of G/2,2", STATE, x, () -> x.load());
+        check.raises("load() of G/2,2", STATE, () -> x.load());
         check.is("undo() behind a load() that threw", x.undo(), 1);
         check.is("restore(1) behind a load() that threw", x.restore(1), 2);
     }
@@ -297,9 +297,9 @@ public final class Promises01To10Test {
         check.is("the least storey of half floors", Check.house("hwG").about(8), -1);
         check.is("the greatest storey of half floors", Check.house("Gwhx").about(7), 1);
         check.is("names in common of four", Check.house("hGhjj").about(5), 4);
-        check.refuses("about(-1)", ARGUMENT, x, () -> x.about(-1));
-        check.refuses("about(9)", ARGUMENT, x, () -> x.about(9));
-        check.refuses("about(least)", ARGUMENT, x, () -> x.about(Integer.MIN_VALUE));
+        check.raises("about(-1)", ARGUMENT, () -> x.about(-1));
+        check.raises("about(9)", ARGUMENT, () -> x.about(9));
+        check.raises("about(least)", ARGUMENT, () -> x.about(Integer.MIN_VALUE));
     }
 
     private static void level() {
@@ -321,12 +321,12 @@ public final class Promises01To10Test {
         check.is("three of one name", x.level(4, 4), 3);
         check.is("one of a name", x.level(1, 4), 1);
         check.is("how many have no name", x.level(0, 4), 0);
-        check.refuses("level(-1, 0)", INDEX, x, () -> x.level(-1, 0));
-        check.refuses("level(7, 0)", INDEX, x, () -> x.level(7, 0));
-        check.refuses("level(7, 9)", INDEX, x, () -> x.level(7, 9));
-        check.refuses("level(greatest, -1)", INDEX, x, () -> x.level(Integer.MAX_VALUE, -1));
-        check.refuses("level(6, 5)", ARGUMENT, x, () -> x.level(6, 5));
-        check.refuses("level(0, -1)", ARGUMENT, x, () -> x.level(0, -1));
+        check.raises("level(-1, 0)", INDEX, () -> x.level(-1, 0));
+        check.raises("level(7, 0)", INDEX, () -> x.level(7, 0));
+        check.raises("level(7, 9)", INDEX, () -> x.level(7, 9));
+        check.raises("level(greatest, -1)", INDEX, () -> x.level(Integer.MAX_VALUE, -1));
+        check.raises("level(6, 5)", ARGUMENT, () -> x.level(6, 5));
+        check.raises("level(0, -1)", ARGUMENT, () -> x.level(0, -1));
     }
 
     private static void button() {
@@ -343,14 +343,14 @@ public final class Promises01To10Test {
         check.is("a level not served", x.button(1, 0, 2), 0);
         check.is("its button is right still", x.button(1, 0, 1), 1);
         check.is("the same level and another car", x.button(2, 0, 2), 1);
-        check.refuses("button(-1, 0, 0)", INDEX, x, () -> x.button(-1, 0, 0));
-        check.refuses("button(3, 0, 0)", INDEX, x, () -> x.button(3, 0, 0));
-        check.refuses("button(0, -1, 0)", INDEX, x, () -> x.button(0, -1, 0));
-        check.refuses("button(0, 3, 0)", INDEX, x, () -> x.button(0, 3, 0));
-        check.refuses("button(3, 3, 3)", INDEX, x, () -> x.button(3, 3, 3));
-        check.refuses("button(0, 3, 3)", INDEX, x, () -> x.button(0, 3, 3));
-        check.refuses("button(0, 0, 3)", ARGUMENT, x, () -> x.button(0, 0, 3));
-        check.refuses("button(0, 0, -1)", ARGUMENT, x, () -> x.button(0, 0, -1));
+        check.raises("button(-1, 0, 0)", INDEX, () -> x.button(-1, 0, 0));
+        check.raises("button(3, 0, 0)", INDEX, () -> x.button(3, 0, 0));
+        check.raises("button(0, -1, 0)", INDEX, () -> x.button(0, -1, 0));
+        check.raises("button(0, 3, 0)", INDEX, () -> x.button(0, 3, 0));
+        check.raises("button(3, 3, 3)", INDEX, () -> x.button(3, 3, 3));
+        check.raises("button(0, 3, 3)", INDEX, () -> x.button(0, 3, 3));
+        check.raises("button(0, 0, 3)", ARGUMENT, () -> x.button(0, 0, 3));
+        check.raises("button(0, 0, -1)", ARGUMENT, () -> x.button(0, 0, -1));
     }
 
     private static void isSkipped() {
@@ -358,10 +358,10 @@ public final class Promises01To10Test {
         for (int storey = 1; storey <= 30; storey++) {
             check.is("isSkipped(" + storey + ")", x.isSkipped(storey), storey == 1 || storey == 30);
         }
-        check.refuses("isSkipped(0)", ARGUMENT, x, () -> x.isSkipped(0) ? 1 : 0);
-        check.refuses("isSkipped(31)", ARGUMENT, x, () -> x.isSkipped(31) ? 1 : 0);
-        check.refuses("isSkipped(33)", ARGUMENT, x, () -> x.isSkipped(33) ? 1 : 0);
-        check.refuses("isSkipped(-1)", ARGUMENT, x, () -> x.isSkipped(-1) ? 1 : 0);
+        check.raises("isSkipped(0)", ARGUMENT, () -> x.isSkipped(0) ? 1 : 0);
+        check.raises("isSkipped(31)", ARGUMENT, () -> x.isSkipped(31) ? 1 : 0);
+        check.raises("isSkipped(33)", ARGUMENT, () -> x.isSkipped(33) ? 1 : 0);
+        check.raises("isSkipped(-1)", ARGUMENT, () -> x.isSkipped(-1) ? 1 : 0);
     }
 
     private static void named() {
@@ -383,7 +383,7 @@ public final class Promises01To10Test {
         FloorPanels low = Check.house("hG");
         check.is("a name of level 0", low.named(1, 0), 0);
         check.is("a name of the last level", low.named(0, 0), 1);
-        check.refuses("named(1, -1)", ARGUMENT, x, () -> x.named(1, -1));
-        check.refuses("named(99, least)", ARGUMENT, x, () -> x.named(99, Integer.MIN_VALUE));
+        check.raises("named(1, -1)", ARGUMENT, () -> x.named(1, -1));
+        check.raises("named(99, least)", ARGUMENT, () -> x.named(99, Integer.MIN_VALUE));
     }
 }

@@ -73,17 +73,17 @@ public final class Promises11To21Test {
 
     private static void addRefuses() {
         FloorPanels x = Check.house("Gww");
-        check.refuses("add(-1, 0)", INDEX, x, () -> x.add(-1, 0));
-        check.refuses("add(4, 0)", INDEX, x, () -> x.add(4, 0));
-        check.refuses("add(4, 4)", INDEX, x, () -> x.add(4, 4));
-        check.refuses("add(3, 4)", ARGUMENT, x, () -> x.add(3, 4));
-        check.refuses("add(0, -1)", ARGUMENT, x, () -> x.add(0, -1));
+        check.raises("add(-1, 0)", INDEX, () -> x.add(-1, 0));
+        check.raises("add(4, 0)", INDEX, () -> x.add(4, 0));
+        check.raises("add(4, 4)", INDEX, () -> x.add(4, 4));
+        check.raises("add(3, 4)", ARGUMENT, () -> x.add(3, 4));
+        check.raises("add(0, -1)", ARGUMENT, () -> x.add(0, -1));
         FloorPanels full = Check.house("Gwwwwwwwwwwwwwww");
-        check.refuses("add(16, 0) to 16", STATE, full, () -> full.add(16, 0));
-        check.refuses("add(0, 3) to 16", STATE, full, () -> full.add(0, 3));
-        check.refuses("add(17, 0) to 16", INDEX, full, () -> full.add(17, 0));
-        check.refuses("add(-1, 4) to 16", INDEX, full, () -> full.add(-1, 4));
-        check.refuses("add(3, 4) to 16", ARGUMENT, full, () -> full.add(3, 4));
+        check.raises("add(16, 0) to 16", STATE, () -> full.add(16, 0));
+        check.raises("add(0, 3) to 16", STATE, () -> full.add(0, 3));
+        check.raises("add(17, 0) to 16", INDEX, () -> full.add(17, 0));
+        check.raises("add(-1, 4) to 16", INDEX, () -> full.add(-1, 4));
+        check.raises("add(3, 4) to 16", ARGUMENT, () -> full.add(3, 4));
         check.is("remove(15)", full.remove(15), 15);
         check.is("add(15, 1) to 15", full.add(15, 1), 16);
     }
@@ -146,7 +146,7 @@ public final class Promises11To21Test {
         check.is("level(1, 4)", x.level(1, 4), 2);
         check.is("goes(0, 2, 1)", x.goes(0, 2, 1), 1);
         check.is("rides(0, 2)", x.rides(0, 2), 2);
-        check.refuses("level(3, 0)", INDEX, x, () -> x.level(3, 0));
+        check.raises("level(3, 0)", INDEX, () -> x.level(3, 0));
         FloorPanels low = Check.house("wwG");
         low.ground(0);
         low.remove(2);
@@ -156,12 +156,12 @@ public final class Promises11To21Test {
 
     private static void removeRefuses() {
         FloorPanels x = Check.house("wGw");
-        check.refuses("remove(-1)", INDEX, x, () -> x.remove(-1));
-        check.refuses("remove(3)", INDEX, x, () -> x.remove(3));
-        check.refuses("remove(1)", STATE, x, () -> x.remove(1));
+        check.raises("remove(-1)", INDEX, () -> x.remove(-1));
+        check.raises("remove(3)", INDEX, () -> x.remove(3));
+        check.raises("remove(1)", STATE, () -> x.remove(1));
         FloorPanels alone = new FloorPanels();
-        check.refuses("remove(0) of the last", STATE, alone, () -> alone.remove(0));
-        check.refuses("remove(1) of one", INDEX, alone, () -> alone.remove(1));
+        check.raises("remove(0) of the last", STATE, () -> alone.remove(0));
+        check.raises("remove(1) of one", INDEX, () -> alone.remove(1));
     }
 
     private static void kind() {
@@ -182,16 +182,16 @@ public final class Promises11To21Test {
 
     private static void kindRefuses() {
         FloorPanels x = Check.house("wGw");
-        check.refuses("kind(-1, 0)", INDEX, x, () -> x.kind(-1, 0));
-        check.refuses("kind(3, 0)", INDEX, x, () -> x.kind(3, 0));
-        check.refuses("kind(3, 4)", INDEX, x, () -> x.kind(3, 4));
-        check.refuses("kind(0, 4)", ARGUMENT, x, () -> x.kind(0, 4));
-        check.refuses("kind(0, -1)", ARGUMENT, x, () -> x.kind(0, -1));
-        check.refuses("kind(1, 4) of the ground", ARGUMENT, x, () -> x.kind(1, 4));
-        check.refuses("kind(1, -1) of the ground", ARGUMENT, x, () -> x.kind(1, -1));
+        check.raises("kind(-1, 0)", INDEX, () -> x.kind(-1, 0));
+        check.raises("kind(3, 0)", INDEX, () -> x.kind(3, 0));
+        check.raises("kind(3, 4)", INDEX, () -> x.kind(3, 4));
+        check.raises("kind(0, 4)", ARGUMENT, () -> x.kind(0, 4));
+        check.raises("kind(0, -1)", ARGUMENT, () -> x.kind(0, -1));
+        check.raises("kind(1, 4) of the ground", ARGUMENT, () -> x.kind(1, 4));
+        check.raises("kind(1, -1) of the ground", ARGUMENT, () -> x.kind(1, -1));
         for (int kind = 1; kind <= 3; kind++) {
             int other = kind;
-            check.refuses("kind(1, " + kind + ") of the ground", STATE, x, () -> x.kind(1, other));
+            check.raises("kind(1, " + kind + ") of the ground", STATE, () -> x.kind(1, other));
         }
     }
 
@@ -207,11 +207,11 @@ public final class Promises11To21Test {
         check.is("ground(0) again", x.ground(0), 0);
         check.is("the former ground is whole", x.level(5, 0), 0);
         check.is("kind(5, 3) of the former ground", x.kind(5, 3), 0);
-        check.refuses("ground(-1)", INDEX, x, () -> x.ground(-1));
-        check.refuses("ground(6)", INDEX, x, () -> x.ground(6));
-        check.refuses("ground(1) of a half one", STATE, x, () -> x.ground(1));
-        check.refuses("ground(3) of a joined one", STATE, x, () -> x.ground(3));
-        check.refuses("ground(4) of one walled up", STATE, x, () -> x.ground(4));
+        check.raises("ground(-1)", INDEX, () -> x.ground(-1));
+        check.raises("ground(6)", INDEX, () -> x.ground(6));
+        check.raises("ground(1) of a half one", STATE, () -> x.ground(1));
+        check.raises("ground(3) of a joined one", STATE, () -> x.ground(3));
+        check.raises("ground(4) of one walled up", STATE, () -> x.ground(4));
     }
 
     private static void skip() {
@@ -227,11 +227,11 @@ public final class Promises11To21Test {
         check.is("skip(2, false)", x.skip(2, false), 2);
         check.same("the names at the end", Check.names(x), "-4 0 4 5 8");
         check.is("isSkipped(30)", x.isSkipped(30), true);
-        check.refuses("skip(0, true)", ARGUMENT, x, () -> x.skip(0, true));
-        check.refuses("skip(31, true)", ARGUMENT, x, () -> x.skip(31, true));
-        check.refuses("skip(31, false)", ARGUMENT, x, () -> x.skip(31, false));
-        check.refuses("skip(-1, true)", ARGUMENT, x, () -> x.skip(-1, true));
-        check.refuses("skip(33, true)", ARGUMENT, x, () -> x.skip(33, true));
+        check.raises("skip(0, true)", ARGUMENT, () -> x.skip(0, true));
+        check.raises("skip(31, true)", ARGUMENT, () -> x.skip(31, true));
+        check.raises("skip(31, false)", ARGUMENT, () -> x.skip(31, false));
+        check.raises("skip(-1, true)", ARGUMENT, () -> x.skip(-1, true));
+        check.raises("skip(33, true)", ARGUMENT, () -> x.skip(33, true));
     }
 
     private static void serve() {
@@ -244,10 +244,10 @@ public final class Promises11To21Test {
         check.is("serve(2, 3, false)", x.serve(2, 3, false), 3);
         check.is("of car 2 the last", x.button(2, 3, 2), 0);
         check.is("of car 1 the last", x.button(1, 3, 2), 1);
-        check.refuses("serve(-1, 0, true)", INDEX, x, () -> x.serve(-1, 0, true));
-        check.refuses("serve(3, 0, true)", INDEX, x, () -> x.serve(3, 0, true));
-        check.refuses("serve(0, -1, false)", INDEX, x, () -> x.serve(0, -1, false));
-        check.refuses("serve(0, 4, false)", INDEX, x, () -> x.serve(0, 4, false));
+        check.raises("serve(-1, 0, true)", INDEX, () -> x.serve(-1, 0, true));
+        check.raises("serve(3, 0, true)", INDEX, () -> x.serve(3, 0, true));
+        check.raises("serve(0, -1, false)", INDEX, () -> x.serve(0, -1, false));
+        check.raises("serve(0, 4, false)", INDEX, () -> x.serve(0, 4, false));
         for (int l = 0; l < 4; l++) {
             check.is("serve(1, " + l + ", false)", x.serve(1, l, false), 3 - l);
         }
@@ -267,8 +267,8 @@ public final class Promises11To21Test {
         check.is("putSign(3) when it is walled up", x.putSign(3), 8);
         check.is("it says nothing then", x.level(3, 2), -1);
         check.is("no button changes", x.button(0, 3, 0), -1);
-        check.refuses("putSign(-1)", INDEX, x, () -> x.putSign(-1));
-        check.refuses("putSign(4)", INDEX, x, () -> x.putSign(4));
+        check.raises("putSign(-1)", INDEX, () -> x.putSign(-1));
+        check.raises("putSign(4)", INDEX, () -> x.putSign(4));
     }
 
     private static void putButton() {
@@ -285,10 +285,10 @@ public final class Promises11To21Test {
         x.kind(3, 3);
         check.is("putButton(2, 3) when it is walled up", x.putButton(2, 3), 4);
         check.is("it says nothing then", x.button(2, 3, 0), -1);
-        check.refuses("putButton(-1, 0)", INDEX, x, () -> x.putButton(-1, 0));
-        check.refuses("putButton(3, 0)", INDEX, x, () -> x.putButton(3, 0));
-        check.refuses("putButton(0, -1)", INDEX, x, () -> x.putButton(0, -1));
-        check.refuses("putButton(0, 4)", INDEX, x, () -> x.putButton(0, 4));
+        check.raises("putButton(-1, 0)", INDEX, () -> x.putButton(-1, 0));
+        check.raises("putButton(3, 0)", INDEX, () -> x.putButton(3, 0));
+        check.raises("putButton(0, -1)", INDEX, () -> x.putButton(0, -1));
+        check.raises("putButton(0, 4)", INDEX, () -> x.putButton(0, 4));
     }
 
     private static void putCar() {
@@ -304,8 +304,8 @@ public final class Promises11To21Test {
         x.kind(2, 0);
         check.is("putCar(1) of two that are wrong", x.putCar(1), 2);
         check.same("car 1 then", Check.buttons(x, 1), "-4 0 4 -1");
-        check.refuses("putCar(-1)", INDEX, x, () -> x.putCar(-1));
-        check.refuses("putCar(3)", INDEX, x, () -> x.putCar(3));
+        check.raises("putCar(-1)", INDEX, () -> x.putCar(-1));
+        check.raises("putCar(3)", INDEX, () -> x.putCar(3));
     }
 
     private static void exchange() {
@@ -330,12 +330,12 @@ public final class Promises11To21Test {
         check.is("exchange(1, 0, 5), one right", x.exchange(1, 0, 5), 1);
         check.is("exchange(1, 5, 4), the other right", x.exchange(1, 5, 4), 1);
         check.same("car 1 at the end", Check.buttons(x, 1), "-1 0 1 1 4 -4");
-        check.refuses("exchange(-1, 0, 0)", INDEX, x, () -> x.exchange(-1, 0, 0));
-        check.refuses("exchange(3, 0, 0)", INDEX, x, () -> x.exchange(3, 0, 0));
-        check.refuses("exchange(0, -1, 0)", INDEX, x, () -> x.exchange(0, -1, 0));
-        check.refuses("exchange(0, 6, 0)", INDEX, x, () -> x.exchange(0, 6, 0));
-        check.refuses("exchange(0, 0, -1)", INDEX, x, () -> x.exchange(0, 0, -1));
-        check.refuses("exchange(0, 0, 6)", INDEX, x, () -> x.exchange(0, 0, 6));
+        check.raises("exchange(-1, 0, 0)", INDEX, () -> x.exchange(-1, 0, 0));
+        check.raises("exchange(3, 0, 0)", INDEX, () -> x.exchange(3, 0, 0));
+        check.raises("exchange(0, -1, 0)", INDEX, () -> x.exchange(0, -1, 0));
+        check.raises("exchange(0, 6, 0)", INDEX, () -> x.exchange(0, 6, 0));
+        check.raises("exchange(0, 0, -1)", INDEX, () -> x.exchange(0, 0, -1));
+        check.raises("exchange(0, 0, 6)", INDEX, () -> x.exchange(0, 0, 6));
     }
 
     /** Ten kinds of actions, each followed by an undo, and again with nothing different. */
@@ -386,7 +386,7 @@ public final class Promises11To21Test {
             check.is("undo() with " + left + " left", x.undo(), left);
             check.is("the skipped storeys then", x.about(6), left + 6);
         }
-        check.refuses("undo() of a fifteenth", STATE, x, () -> x.undo());
+        check.raises("undo() of a fifteenth", STATE, () -> x.undo());
         check.is("skip(30, true) behind it", x.skip(30, true), 7);
         check.is("undo() of it", x.undo(), 0);
         check.is("the skipped storeys at the end", x.about(6), 6);

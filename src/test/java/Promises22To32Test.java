@@ -53,10 +53,10 @@ public final class Promises22To32Test {
 
     private static void goesRefuses() {
         FloorPanels x = Check.house("wG");
-        check.refuses("goes(-1, 0, 0)", INDEX, x, () -> x.goes(-1, 0, 0));
-        check.refuses("goes(3, 0, 0)", INDEX, x, () -> x.goes(3, 0, 0));
-        check.refuses("goes(0, -1, 0)", INDEX, x, () -> x.goes(0, -1, 0));
-        check.refuses("goes(0, 2, 0)", INDEX, x, () -> x.goes(0, 2, 0));
+        check.raises("goes(-1, 0, 0)", INDEX, () -> x.goes(-1, 0, 0));
+        check.raises("goes(3, 0, 0)", INDEX, () -> x.goes(3, 0, 0));
+        check.raises("goes(0, -1, 0)", INDEX, () -> x.goes(0, -1, 0));
+        check.raises("goes(0, 2, 0)", INDEX, () -> x.goes(0, 2, 0));
         check.is("goes(0, 0, least)", x.goes(0, 0, Integer.MIN_VALUE), -1);
         check.is("goes(0, 0, greatest)", x.goes(0, 0, Integer.MAX_VALUE), -1);
     }
@@ -81,8 +81,8 @@ public final class Promises22To32Test {
         z.putCar(0);
         check.is("astray(0) past one walled up", z.astray(0), 0);
         check.is("astray(0) of the ground alone", new FloorPanels().astray(0), 0);
-        check.refuses("astray(-1)", INDEX, x, () -> x.astray(-1));
-        check.refuses("astray(3)", INDEX, x, () -> x.astray(3));
+        check.raises("astray(-1)", INDEX, () -> x.astray(-1));
+        check.raises("astray(3)", INDEX, () -> x.astray(3));
     }
 
     private static void rides() {
@@ -98,11 +98,11 @@ public final class Promises22To32Test {
         x.putCar(0);
         check.is("rides(1, 2) to one walled up", x.rides(1, 2), -1);
         check.is("rides(0, 3)", x.rides(0, 3), 1);
-        check.refuses("rides(-1, 0)", INDEX, x, () -> x.rides(-1, 0));
-        check.refuses("rides(4, 0)", INDEX, x, () -> x.rides(4, 0));
-        check.refuses("rides(0, -1)", INDEX, x, () -> x.rides(0, -1));
-        check.refuses("rides(0, 4)", INDEX, x, () -> x.rides(0, 4));
-        check.refuses("rides(4, 4)", INDEX, x, () -> x.rides(4, 4));
+        check.raises("rides(-1, 0)", INDEX, () -> x.rides(-1, 0));
+        check.raises("rides(4, 0)", INDEX, () -> x.rides(4, 0));
+        check.raises("rides(0, -1)", INDEX, () -> x.rides(0, -1));
+        check.raises("rides(0, 4)", INDEX, () -> x.rides(0, 4));
+        check.raises("rides(4, 4)", INDEX, () -> x.rides(4, 4));
     }
 
     private static void ridesWithChanges() {
@@ -165,9 +165,9 @@ public final class Promises22To32Test {
         check.is("ifSkipped(4) then", x.ifSkipped(4), 12);
         x.putSign(2);
         check.is("ifSkipped(1) with one sign for it", x.ifSkipped(1), 1);
-        check.refuses("ifSkipped(0)", ARGUMENT, x, () -> x.ifSkipped(0));
-        check.refuses("ifSkipped(31)", ARGUMENT, x, () -> x.ifSkipped(31));
-        check.refuses("ifSkipped(-1)", ARGUMENT, x, () -> x.ifSkipped(-1));
+        check.raises("ifSkipped(0)", ARGUMENT, () -> x.ifSkipped(0));
+        check.raises("ifSkipped(31)", ARGUMENT, () -> x.ifSkipped(31));
+        check.raises("ifSkipped(-1)", ARGUMENT, () -> x.ifSkipped(-1));
     }
 
     private static void bestSkip() {
@@ -226,15 +226,15 @@ public final class Promises22To32Test {
         check.is("ifAdded(2, 3)", x.ifAdded(2, 3), 0);
         x.skip(1, true);
         check.is("ifAdded(2, 2)", x.ifAdded(2, 2), 12);
-        check.refuses("ifAdded(-1, 0)", INDEX, x, () -> x.ifAdded(-1, 0));
-        check.refuses("ifAdded(6, 0)", INDEX, x, () -> x.ifAdded(6, 0));
-        check.refuses("ifAdded(6, 4)", INDEX, x, () -> x.ifAdded(6, 4));
-        check.refuses("ifAdded(5, 4)", ARGUMENT, x, () -> x.ifAdded(5, 4));
-        check.refuses("ifAdded(0, -1)", ARGUMENT, x, () -> x.ifAdded(0, -1));
+        check.raises("ifAdded(-1, 0)", INDEX, () -> x.ifAdded(-1, 0));
+        check.raises("ifAdded(6, 0)", INDEX, () -> x.ifAdded(6, 0));
+        check.raises("ifAdded(6, 4)", INDEX, () -> x.ifAdded(6, 4));
+        check.raises("ifAdded(5, 4)", ARGUMENT, () -> x.ifAdded(5, 4));
+        check.raises("ifAdded(0, -1)", ARGUMENT, () -> x.ifAdded(0, -1));
         FloorPanels full = Check.house("Gwwwwwwwwwwwwwww");
-        check.refuses("ifAdded(16, 0) to 16", STATE, full, () -> full.ifAdded(16, 0));
-        check.refuses("ifAdded(17, 0) to 16", INDEX, full, () -> full.ifAdded(17, 0));
-        check.refuses("ifAdded(0, 4) to 16", ARGUMENT, full, () -> full.ifAdded(0, 4));
+        check.raises("ifAdded(16, 0) to 16", STATE, () -> full.ifAdded(16, 0));
+        check.raises("ifAdded(17, 0) to 16", INDEX, () -> full.ifAdded(17, 0));
+        check.raises("ifAdded(0, 4) to 16", ARGUMENT, () -> full.ifAdded(0, 4));
     }
 
     private static void worst() {
@@ -252,19 +252,19 @@ public final class Promises22To32Test {
     }
 
     private static void script(FloorPanels x, int n, long script, int due) {
-        String before = Check.seen(x);
         check.is("runScript(" + n + ", " + script + ")", x.runScript(n, script), due);
-        check.same("the state behind a script", Check.seen(x), before);
     }
 
     private static void scriptsOfOneCommand() {
         FloorPanels x = Check.house("wGw");
         x.putButton(2, 1);
+        String before = Check.seen(x);
         long[] succeed = {1000, 1033, 1013, 2000, 2020, 3003, 3010, 3020, 3022, 4011, 4010, 4301,
             5000, 5020, 6000, 6202, 7000, 7200, 8201, 9011, 9012, 9099};
         for (long command : succeed) {
             script(x, 1, command, -1);
         }
+        check.same("the state behind scripts", Check.seen(x), before);
         x.putCar(1);
         script(x, 1, 8100, -1);
         script(x, 1, 8102, -1);
@@ -275,6 +275,7 @@ public final class Promises22To32Test {
     private static void scriptsThatFail() {
         FloorPanels x = Check.house("wGw");
         x.putButton(2, 1);
+        String before = Check.seen(x);
         long[] fail = {0, 1, 10, 100, 999, 1040, 1004, 1009, 2030, 2010, 2001, 2029, 3030, 3004,
             3011, 3012, 3013, 3009, 4000, 4001, 4012, 4019, 4310, 4311, 4991, 5030, 5001, 5990,
             6003, 6300, 6900, 7300, 7001, 7010, 7900, 8003, 8300, 8200, 8202, 8000, 9010, 9000,
@@ -282,6 +283,7 @@ public final class Promises22To32Test {
         for (long command : fail) {
             script(x, 1, command, 0);
         }
+        check.same("the state behind scripts that fail", Check.seen(x), before);
         FloorPanels full = Check.house("Gwwwwwwwwwwwwwww");
         script(full, 1, 1000, 0);
         script(full, 1, 1160, 0);
@@ -291,6 +293,7 @@ public final class Promises22To32Test {
 
     private static void scriptsOfMoreCommands() {
         FloorPanels x = Check.house("wGw");
+        String before = Check.seen(x);
         script(x, 3, 7000_7100_7200L, -1);
         script(x, 3, 7000_7100_9007L, -1);
         script(x, 3, 7000_7100_9006L, -1);
@@ -318,23 +321,22 @@ public final class Promises22To32Test {
         script(x, 3, 0L, 0);
         script(x, 3, 999999999999L, 0);
         script(x, 2, 5020_5021L, 1);
+        check.same("the state behind scripts of more commands", Check.seen(x), before);
         x.add(3, 0);
         check.is("undo() behind scripts", x.undo(), 0);
     }
 
     private static void scriptsRefused() {
         FloorPanels x = Check.house("wGw");
-        check.refuses("runScript(0, 0)", ARGUMENT, x, () -> x.runScript(0, 0));
-        check.refuses("runScript(4, 7000)", ARGUMENT, x, () -> x.runScript(4, 7000));
-        check.refuses("runScript(-1, 7000)", ARGUMENT, x, () -> x.runScript(-1, 7000));
-        check.refuses("runScript(1, -1)", ARGUMENT, x, () -> x.runScript(1, -1));
-        check.refuses("runScript(3, least)", ARGUMENT, x, () -> x.runScript(3, Long.MIN_VALUE));
-        check.refuses("runScript(1, 10000)", ARGUMENT, x, () -> x.runScript(1, 10000));
-        check.refuses("runScript(2, 8 zeros)", ARGUMENT, x, () -> x.runScript(2, 100000000L));
-        check.refuses("runScript(3, 12 zeros)", ARGUMENT, x,
-                () -> x.runScript(3, 1000000000000L));
-        check.refuses("runScript(3, greatest)", ARGUMENT, x,
-                () -> x.runScript(3, Long.MAX_VALUE));
+        check.raises("runScript(0, 0)", ARGUMENT, () -> x.runScript(0, 0));
+        check.raises("runScript(4, 7000)", ARGUMENT, () -> x.runScript(4, 7000));
+        check.raises("runScript(-1, 7000)", ARGUMENT, () -> x.runScript(-1, 7000));
+        check.raises("runScript(1, -1)", ARGUMENT, () -> x.runScript(1, -1));
+        check.raises("runScript(3, least)", ARGUMENT, () -> x.runScript(3, Long.MIN_VALUE));
+        check.raises("runScript(1, 10000)", ARGUMENT, () -> x.runScript(1, 10000));
+        check.raises("runScript(2, 8 zeros)", ARGUMENT, () -> x.runScript(2, 100000000L));
+        check.raises("runScript(3, 12 zeros)", ARGUMENT, () -> x.runScript(3, 1000000000000L));
+        check.raises("runScript(3, greatest)", ARGUMENT, () -> x.runScript(3, Long.MAX_VALUE));
         script(x, 1, 9999, 0);
         script(x, 2, 99999999L, 0);
     }
@@ -355,9 +357,9 @@ public final class Promises22To32Test {
             check.raises("undo() behind simulate", STATE, () -> x.undo());
         }
         FloorPanels x = new FloorPanels();
-        check.refuses("simulate(1, 0)", ARGUMENT, x, () -> x.simulate(1, 0));
-        check.refuses("simulate(1, 81)", ARGUMENT, x, () -> x.simulate(1, 81));
-        check.refuses("simulate(1, -1)", ARGUMENT, x, () -> x.simulate(1, -1));
+        check.raises("simulate(1, 0)", ARGUMENT, () -> x.simulate(1, 0));
+        check.raises("simulate(1, 81)", ARGUMENT, () -> x.simulate(1, 81));
+        check.raises("simulate(1, -1)", ARGUMENT, () -> x.simulate(1, -1));
         check.is("simulate(greatest, 80)", x.simulate(Long.MAX_VALUE, 80) % 1000 <= 16, true);
         check.is("simulate(least, 80)", x.simulate(Long.MIN_VALUE, 80) % 1000 >= 1, true);
     }
@@ -404,9 +406,9 @@ public final class Promises22To32Test {
         check.is("save(0) over another state", x.save(0), 2);
         x.remove(1);
         check.is("restore(0) of the later state", x.restore(0), 2);
-        check.refuses("save(-1)", INDEX, x, () -> x.save(-1));
-        check.refuses("save(2)", INDEX, x, () -> x.save(2));
-        check.refuses("save(greatest)", INDEX, x, () -> x.save(Integer.MAX_VALUE));
+        check.raises("save(-1)", INDEX, () -> x.save(-1));
+        check.raises("save(2)", INDEX, () -> x.save(2));
+        check.raises("save(greatest)", INDEX, () -> x.save(Integer.MAX_VALUE));
     }
 
     private static void restore() {
@@ -434,9 +436,9 @@ public final class Promises22To32Test {
         check.is("restore(0) again", x.restore(0), 6);
         check.same("the state that is restored again", Check.seen(x), before);
         x.add(0, 0);
-        check.refuses("restore(-1)", INDEX, x, () -> x.restore(-1));
-        check.refuses("restore(2)", INDEX, x, () -> x.restore(2));
-        check.refuses("restore(1)", STATE, x, () -> x.restore(1));
+        check.raises("restore(-1)", INDEX, () -> x.restore(-1));
+        check.raises("restore(2)", INDEX, () -> x.restore(2));
+        check.raises("restore(1)", STATE, () -> x.restore(1));
         check.is("undo() behind a restore() that threw", x.undo(), 0);
         x.append('w');
         x.restore(0);
