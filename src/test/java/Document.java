@@ -3,30 +3,41 @@ import java.nio.charset.StandardCharsets;
 import java.nio.file.Files;
 import java.nio.file.Path;
 import java.util.ArrayList;
+import java.util.Arrays;
 import java.util.LinkedHashMap;
 import java.util.List;
 import java.util.Map;
+import java.util.regex.Matcher;
+import java.util.regex.Pattern;
 
 /**
- * The document, section by section, so that the tests quote it as it is, and leave out none
- * of the lines that tell what an argument may be and when a call throws.
+ * The document, section by section, so that the tests quote it as it is, and leave out no
+ * sentence of the terms and the promises.
  */
 final class Document {
     private static final Path PLACE = Path.of("..", "shared", "DOC.md");
+    private static final String FACE = "The public face";
+    private static final String TERMS = "Terms";
+    private static final String PROMISE = "Promise ";
 
-    /** The lines of each section, by its heading. */
-    private final Map<String, List<String>> sections = new LinkedHashMap<>();
+    /** What is no sentence: the headings inside the terms, and the calls, which the face tells. */
+    private static final List<String> HEADINGS = List.of("LEVELS", "NAMES", "SIGNS AND BUTTONS",
+            "RIDES", "TEXT", "ACTIONS AND UNDO", "EXCEPTIONS");
+    private static final Pattern CALL = Pattern.compile("`([^`]+)`:");
+
+    /** The words of each section, by its heading. */
+    private final Map<String, String> sections = new LinkedHashMap<>();
 
     Document() throws IOException {
-        List<String> section = new ArrayList<>();
+        String heading = "";
         for (String line : Files.readAllLines(PLACE, StandardCharsets.UTF_8)) {
             if (line.startsWith("## ")) {
-                section = new ArrayList<>();
-                sections.put(line.substring(3), section);
+                heading = line.substring(3);
             } else {
-                section.add(line);
+                sections.merge(heading, line, (words, more) -> words + " " + more);
             }
         }
+        sections.replaceAll((name, words) -> words.replaceAll("\\s+", " ").trim());
     }
 
     static boolean isThere() {
@@ -39,28 +50,61 @@ final class Document {
                 check.tell("the document does not say in '" + quote.section + "': " + quote.words);
             }
         }
-        for (Map.Entry<String, List<String>> section : sections.entrySet()) {
-            for (String line : section.getValue()) {
-                boolean namesAnEdge = line.startsWith("Throws ") || line.startsWith("- `");
-                if (section.getKey().startsWith("Promise ") && namesAnEdge
-                        && !isQuoted(check, section.getKey(), line)) {
-                    check.tell("no test is for '" + line + "' of " + section.getKey());
+        for (String section : sections.keySet()) {
+            if (section.equals(TERMS) || section.startsWith(PROMISE)) {
+                for (String left : leftOut(section, check.quotes())) {
+                    check.tell("no test is for '" + left + "' of " + section);
                 }
             }
         }
     }
 
-    private String words(String section) {
-        List<String> lines = sections.getOrDefault(section, List.of());
-        return String.join(" ", lines).replaceAll("\\s+", " ");
-    }
-
-    private static boolean isQuoted(Check check, String section, String line) {
-        for (Check.Quote quote : check.quotes()) {
-            if (quote.section.equals(section) && quote.words.equals(line.trim())) {
-                return true;
+    /** Each line of the public face. */
+    List<String> face() {
+        List<String> lines = new ArrayList<>();
+        for (String line : words(FACE).replaceAll("```(java)?|[{}]", ";").split(";")) {
+            if (!line.isBlank()) {
+                lines.add(line.trim());
             }
         }
-        return false;
+        return lines;
+    }
+
+    /** The call with which each promise begins. */
+    List<String> promisedCalls() {
+        List<String> calls = new ArrayList<>();
+        for (String section : sections.keySet()) {
+            if (section.startsWith(PROMISE)) {
+                Matcher call = CALL.matcher(words(section));
+                calls.add(call.lookingAt() ? call.group(1) : section);
+            }
+        }
+        return calls;
+    }
+
+    private String words(String section) {
+        return sections.getOrDefault(section, "");
+    }
+
+    /** The words of a section that no quote has. */
+    private List<String> leftOut(String section, List<Check.Quote> quotes) {
+        char[] words = words(section).toCharArray();
+        for (Check.Quote quote : quotes) {
+            if (quote.section.equals(section) && !quote.words.isEmpty()) {
+                int at = words(section).indexOf(quote.words);
+                while (at >= 0) {
+                    Arrays.fill(words, at, at + quote.words.length(), '\n');
+                    at = words(section).indexOf(quote.words, at + 1);
+                }
+            }
+        }
+        List<String> left = new ArrayList<>();
+        for (String part : new String(words).split("\n+")) {
+            String rest = part.trim();
+            if (!rest.isEmpty() && !HEADINGS.contains(rest) && !CALL.matcher(rest).matches()) {
+                left.add(rest);
+            }
+        }
+        return left;
     }
 }

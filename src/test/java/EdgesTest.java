@@ -17,6 +17,7 @@ public final class EdgesTest {
         new EdgesOfRides(check).run();
         new EdgesOfScripts(check).run();
         new EdgesOfSlots(check).run();
+        new PlainSentences(check).run();
         if (Document.isThere()) {
             check.ofNone();
             new Document().compare(check);

@@ -1,8 +1,11 @@
+import java.io.IOException;
 import java.lang.reflect.Constructor;
 import java.lang.reflect.Field;
 import java.lang.reflect.Method;
 import java.lang.reflect.Modifier;
+import java.util.ArrayList;
 import java.util.Arrays;
+import java.util.List;
 import java.util.TreeSet;
 
 /** The public face is the document's, and nothing else can be seen from outside. */
@@ -46,7 +49,7 @@ public final class FaceTest {
 
     private static final Check check = new Check();
 
-    public static void main(String[] args) {
+    public static void main(String[] args) throws IOException {
         check.is("NONE", FloorPanels.NONE, -1);
         check.is("the class is public and final",
                 FloorPanels.class.getModifiers(), Modifier.PUBLIC | Modifier.FINAL);
@@ -54,6 +57,11 @@ public final class FaceTest {
         fields();
         constructors();
         classesInside();
+        if (Document.isThere()) {
+            asTheDocumentWritesIt(new Document());
+        } else {
+            System.out.println("../shared/DOC.md is not there: the face is not compared with it");
+        }
         check.end();
     }
 
@@ -88,6 +96,31 @@ public final class FaceTest {
             s.append(' ').append(e.getSimpleName());
         }
         return s.toString();
+    }
+
+    private static void asTheDocumentWritesIt(Document document) {
+        List<String> due = new ArrayList<>();
+        due.add("public final class FloorPanels");
+        due.add("public static final int NONE = " + FloorPanels.NONE);
+        due.add("public FloorPanels()");
+        due.addAll(Arrays.asList(FACE));
+        List<String> face = document.face();
+        for (int i = 3; i < face.size(); i++) {
+            face.set(i, withoutNames(face.get(i).replaceFirst("^public ", "")));
+        }
+        check.same("the face of the document", String.join("\n  ", face), String.join("\n  ", due));
+        List<String> calls = document.promisedCalls();
+        calls.replaceAll(FaceTest::withoutNames);
+        List<String> promised = new ArrayList<>(Arrays.asList(FACE));
+        promised.add(0, "FloorPanels()");
+        check.same("the calls of the promises", String.join("\n  ", calls),
+                String.join("\n  ", promised));
+    }
+
+    /** A call as FACE tells it. */
+    private static String withoutNames(String call) {
+        return call.replaceAll("(int|long|boolean) [a-z]+(?=[,)])", "$1").replaceAll(", (?=[a-z])", ",")
+                .replace(" throws", "").replaceAll(", (?=[A-Z])", " ");
     }
 
     private static void fields() {
