@@ -3,7 +3,8 @@ import java.io.IOException;
 /**
  * Each sentence of the document that names an edge: what is the least and the greatest, the
  * empty and the full, what goes round, what is refused. Each has a test of its own, which
- * begins with the section and the sentence that it is for.
+ * begins with the section and the sentence that it is for. The sentences that name no edge
+ * are quoted likewise, so that none is left out.
  */
 public final class EdgesTest {
     public static void main(String[] args) throws IOException {
